@@ -331,6 +331,14 @@ public final class PromisesTest {
         dueNext("6: nothing is left of the old draft", x, 1);
         readAll(x, 1);
         dueNext("6: nothing is left behind it", x);
+        draft(x, "8 *");
+        due("6: clear() of one", x.clear(), 1);
+        draft(x, "8");
+        due("6: make() of the same name", x.make(), 1);
+        due("6: begin(1)", x.begin(1), true);
+        due("6: no 'so often' is left", x.isWhole(), false);
+        readAll(x, 8);
+        dueNext("6: nor what it let follow", x);
         draft(x, "8 9");
         due("6: clear() of two", x.clear(), 2);
         due("6: models stay", x.size(0), 1);
