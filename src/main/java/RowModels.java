@@ -116,11 +116,12 @@ public final class RowModels {
     private static final class Sets {
         private static final int WORDS = 4;
         private static final int WORD_SHIFT = 6;
+        private static final int MOST_SETS = MOST_READ + 1;
 
         private final long[] words;
 
         Sets(int count) {
-            words = new long[Math.max(count, 0) * WORDS];
+            words = new long[Math.max(0, Math.min(count, MOST_SETS)) * WORDS];
         }
 
         private boolean hasSet(int set) {

@@ -860,6 +860,27 @@ public final class EdgesTest {
             y.whole(false).read(i, i);
         }
         y.whole(true).read(100, 101).whole(false).back(100).whole(true).back(100).whole(false);
+        manyThatComeAgain();
+    }
+
+    // The names to choose of come again behind each other, and the row may end behind each of them: also
+    // the last ones of the most that leave calls enough to see it.
+    private static void manyThatComeAgain() {
+        for (int count : new int[] {1, 2, 63, 64, 65, 127, 128, 129, 191, 192, 193, 194, 251, 252}) {
+            for (int how = 2; how <= 3; how++) {
+                Calls x = new Calls("12: whole behind each of " + count + " that come again, how " + how);
+                x.name(1, 1);
+                for (int i = 2; i <= count; i++) {
+                    x.name(i, 2).choice(1);
+                }
+                x.often(how, true).make(0).begin(0, true).read(count, 1).whole(true);
+                x.next(count - 1, count).next(count, NONE).can((count + 1) / 2, true);
+                if (count < 250) {
+                    x.can(count, true).can(1, true).can(count + 1, false).read(1, 2).whole(true).can(count, true);
+                    x.back(1).back(count).whole(how == 2).next(count - 1, count).next(count, NONE);
+                }
+            }
+        }
     }
 
     // ---- Promise 13
